@@ -820,6 +820,8 @@ public final class RoadPaint {
 
         /** The index of the first error, the length if only an end is missing, NONE for a text. */
         int firstError() {
+            // The form of the order at hand, and the place in it that comes next; at the place 0
+            // an order has to begin, of whatever form.
             String form = "?";
             int place = 0;
             for (int at = 0; at < length; at++) {
@@ -828,7 +830,6 @@ public final class RoadPaint {
                     if (code != ';') {
                         return at;
                     }
-                    form = "?";
                     place = 0;
                 } else if (place == 0) {
                     form = formOf(code);

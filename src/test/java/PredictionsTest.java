@@ -25,6 +25,11 @@ public final class PredictionsTest {
         check.due("beside", x.whyNot(0, 7, 1), 2);
         check.due("beside, both ways", x.whyNot(2, 7, 2), 0);
         check.due("in its own place", x.whyNot(1, 7, 1), 0);
+        RoadPaint y = new RoadPaint();
+        y.arrow(0, 15, 1);
+        y.arrow(2, 0, 0);
+        check.due("head on with the last mile", y.whyNot(0, 11, 0), 1);
+        check.due("head on with the first mile", y.whyNot(2, 4, 1), 1);
         check.due("it changes nothing", x.total(0), 1);
         check.due("it records nothing", x.undo(), 0);
         check.due("lane 3", x.whyNot(3, 0, 3), RoadPaint.NO_SUCH);
@@ -40,6 +45,8 @@ public final class PredictionsTest {
         check.due("no word", x.readableFor(0, 0), RoadPaint.NONE);
         x.word(0, 0, 2);
         check.due("BUS, 70 to lose at 5", x.readableFor(0, 0), 15);
+        x.word(2, 15, 2);
+        check.due("the last cell", x.readableFor(2, 15), 15);
         x.word(0, 0, 0);
         check.due("SLOW, 70 to lose at 2", x.readableFor(0, 0), 36);
         x.traffic(0, 20);

@@ -224,6 +224,8 @@ public final class SignsTest {
         check.due("no strength of a word", x.cell(1, 1, 3), 0);
         check.due("the dashes stay", x.total(2), 2);
         check.due("the next word stays", x.total(1), 1);
+        x.word(2, 15, 3);
+        check.due("the last cell", x.erase(2, 15), 1);
         check.due("lane 3", x.erase(3, 0), RoadPaint.NO_SUCH);
         check.due("lane -1", x.erase(-1, 0), RoadPaint.NO_SUCH);
         check.due("mile 16", x.erase(0, 16), RoadPaint.NO_SUCH);

@@ -9,6 +9,7 @@ public final class TextsTest {
         promise21Texts();
         promise21FullBuffer();
         promise22CarryOut();
+        promise22FullBuffer();
         promise22StopsAtAnError();
         promise22Records();
         promise22BadText();
@@ -123,6 +124,21 @@ public final class TextsTest {
         check.due("a night downwards", y.cell(0, 2, 3), 100);
         check.due("did not reach", y.cell(0, 0, 3), 40);
         check.due("cans", y.total(4), 19);
+    }
+
+    private static void promise22FullBuffer() {
+        RoadPaint x = new RoadPaint();
+        Check.write(x, "w0a0;" + "d;".repeat(30) + "nap;d");
+        check.due("70 characters", x.append(100), RoadPaint.LIMIT);
+        check.due("33 orders", x.carryOut(), 33);
+        check.due("days", x.total(5), 31);
+        check.due("nights", x.total(6), 1);
+        RoadPaint y = new RoadPaint();
+        Check.write(y, "a0au");
+        y.clearText();
+        Check.write(y, "d");
+        check.due("nothing of an older text", y.carryOut(), 1);
+        check.due("no arrow", y.total(0), 0);
     }
 
     private static void promise22StopsAtAnError() {

@@ -92,6 +92,10 @@ public final class TrafficAndCrewsTest {
         check.due("30 days", x.pass(30), 4);
         check.due("days", x.total(5), 33);
         check.due("arrow of lane 0 after 33 days", x.cell(0, 1, 1), 1);
+        check.due("with a strength of 1 it is there", x.cell(0, 1, 0), 0);
+        check.due("and counts", x.total(0), 1);
+        check.due("and hides no other", x.whyNot(0, 2, 1), 1);
+        check.due("and is repainted, as is the dash", x.night(1, 1), 2);
     }
 
     private static void promise9SlowAndStop() {
