@@ -3,6 +3,8 @@ final class Check {
     private static final String[] NAMES = {"", "NO_SUCH", "BAD_VALUE", "NOT_POSSIBLE", "LIMIT", "BAD_TEXT", "NONE"};
 
     private final String test;
+    private String sentence = "";
+    private int sentences = 0;
     private int wrong = 0;
     private int made = 0;
 
@@ -10,14 +12,33 @@ final class Check {
         this.test = test;
     }
 
+    /** What follows tests this sentence of the document, which wrong answers are told with. */
+    void sentence(String words) {
+        sentence = ": \"" + words + "\"";
+        sentences++;
+    }
+
     /** Tells whether the answer is as due. */
     boolean due(String what, long got, long want) {
         made++;
         if (got != want) {
             wrong++;
-            System.out.println(test + ": " + what + " answered " + named(got) + ", due is " + named(want));
+            System.out.println(test + sentence + ": " + what + " answered " + named(got) + ", due is " + named(want));
         }
         return got == want;
+    }
+
+    /** Tells whether all numbers are as due; of the wrong ones only the first is told. */
+    boolean allDue(String what, int[] got, int[] want) {
+        if (!due(what + ", how many numbers", got.length, want.length)) {
+            return false;
+        }
+        for (int i = 0; i < got.length; i++) {
+            if (!due(what + ", number " + i, got[i], want[i])) {
+                return false;
+            }
+        }
+        return true;
     }
 
     void isTrue(String what, boolean truth) {
@@ -33,7 +54,8 @@ final class Check {
 
     /** Ends the program: with 1 if an answer was wrong. */
     void end() {
-        System.out.println(test + ": " + made + " answers, " + wrong + " wrong");
+        String told = sentences == 0 ? "" : sentences + " sentences, ";
+        System.out.println(test + ": " + told + made + " answers, " + wrong + " wrong");
         if (wrong != 0 || made == 0) {
             System.exit(1);
         }
