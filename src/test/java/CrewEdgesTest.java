@@ -25,6 +25,7 @@ public final class CrewEdgesTest {
         previousSettings();
         nightsAndSignsSoFar();
         bestNightOfMostSigns();
+        bestNightOfAllSorts();
         bestNightOfOneMile();
         bestNightWeakerThan60();
         bestNightWithCansAndSetting();
@@ -359,6 +360,33 @@ public final class CrewEdgesTest {
         check.due("60 does not count", y.bestNight(), 16 * 7 + 7);
         y.pass(1);
         check.due("one more sign", y.bestNight(), 16 * 3 + 7);
+    }
+
+    private static void bestNightOfAllSorts() {
+        check.sentence("Signs are arrows, words, and dashes that are not 0 (each counts for a night)");
+        for (int sign = 0; sign < 8; sign++) {
+            RoadPaint x = Roads.faded(8);
+            for (int lane = 0; lane < 3; lane++) {
+                x.traffic(lane, 20);
+            }
+            if (sign < 3) {
+                x.arrow(sign, 11, 1);
+            } else if (sign < 6) {
+                x.word(sign - 3, 11, 1);
+                x.set(0, 100);
+            } else {
+                x.dash(sign - 6, 11, 3);
+            }
+            x.pass(1);
+            x.night(8, 8);
+            x.pass(2);
+            int strength = sign >= 3 && sign < 6 ? 50 : 40;
+            check.due("the sign " + sign, x.total(9), 60 + strength);
+            check.due("the sign alone", x.bestNight(), 17 * 11);
+            x.pass(1);
+            check.due("with another sign", x.bestNight(), 16 * 8 + 11);
+            check.due("a night", x.night(8, 11), 2);
+        }
     }
 
     private static void bestNightOfOneMile() {

@@ -240,25 +240,22 @@ public final class FadingEdgesTest {
 
     private static void readAheadOfTheLoss() {
         check.sentence("that can be read (ahead of the loss)");
-        RoadPaint x = new RoadPaint();
-        x.traffic(0, 20);
-        x.word(0, 0, 0);
-        x.arrow(0, 0, 0);
-        x.set(0, 100);
-        x.pass(1);
-        check.due("it could just be read: the word", x.cell(0, 0, 3), 90);
-        check.due("it could just be read: the arrow", x.cell(0, 0, 1), 90);
-        x.pass(1);
-        check.due("it could not be read: the word", x.cell(0, 0, 3), 70);
-        check.due("it could not be read: the arrow", x.cell(0, 0, 1), 70);
-        x.set(0, 71);
-        x.pass(1);
-        check.due("weaker by 1: the word", x.cell(0, 0, 3), 50);
-        check.due("weaker by 1: the arrow", x.cell(0, 0, 1), 50);
-        x.set(0, 50);
-        x.pass(1);
-        check.due("just as strong: the word", x.cell(0, 0, 3), 40);
-        check.due("just as strong: the arrow", x.cell(0, 0, 1), 40);
+        for (int cell = 0; cell < 48; cell++) {
+            int lane = cell / 16;
+            int mile = cell % 16;
+            RoadPaint x = new RoadPaint();
+            x.traffic(lane, 20);
+            x.word(lane, mile, cell % 2);
+            x.arrow(lane, mile, 0);
+            int[] settings = {100, 100, 71, 50};
+            int[] due = {90, 70, 50, 40};
+            for (int day = 0; day < 4; day++) {
+                x.set(0, settings[day]);
+                x.pass(1);
+                check.due("cell " + cell + ", day " + day + ", the word", x.cell(lane, mile, 3), due[day]);
+                check.due("cell " + cell + ", day " + day + ", the arrow", x.cell(lane, mile, 1), due[day]);
+            }
+        }
         RoadPaint y = new RoadPaint();
         y.traffic(0, 9);
         y.set(0, 1);

@@ -1,7 +1,8 @@
-/** All promises: runs of 512 calls, the same ones each time, on RoadPaint and on RoadModel. */
+/** All promises: runs of at most 512 calls, the same ones each time, on RoadPaint and on RoadModel. */
 public final class RandomRunsTest {
-    private static final int RUNS = 1500;
+    private static final int RUNS = 4000;
     private static final int CALLS = 512;
+    private static final int MOST_CALLS_AT_ONCE = 75;
     private static final Check check = new Check("RandomRunsTest");
 
     private final Dice dice;
@@ -10,6 +11,7 @@ public final class RandomRunsTest {
     private final int[] weights = new int[26];
     private final int rows;
     private String called = "";
+    private int calls = 0;
 
     public static void main(String[] args) {
         for (int run = 0; run < RUNS; run++) {
@@ -28,15 +30,26 @@ public final class RandomRunsTest {
         weights[7] = Math.min(weights[7], 2);
     }
 
-    /** Ends at the first wrong answer, as what follows it tells nothing more. */
+    /**
+     * Ends at the first wrong answer, as what follows it tells nothing more. What an object answers
+     * after its 512th call is free; each other run keeps some calls for a look at all that there is.
+     */
     private void run(int run) {
-        for (int i = 0; i < CALLS; i++) {
+        boolean looks = run % 2 == 0;
+        int last = looks ? CALLS - Roads.PICTURE_CALLS : CALLS;
+        while (calls < last) {
             int what = choose();
-            long both = what == 24 ? text() : what == 25 ? look() : call(what);
-            if (!check.due("run " + run + ", call " + i + ", " + called, (int) (both >> 32), (int) both)) {
+            boolean room = calls + MOST_CALLS_AT_ONCE <= last;
+            long both = what < 24 || !room ? call(what % 24) : what == 24 ? text() : lookAtMile(dice.below(rows));
+            if (!check.due("run " + run + ", call " + calls + ", " + called, (int) (both >> 32), (int) both)) {
                 return;
             }
         }
+        if (looks) {
+            long both = lookAtAll();
+            check.due("run " + run + ", at the end, " + called, (int) (both >> 32), (int) both);
+        }
+        check.isTrue("at most 512 calls", calls <= CALLS);
     }
 
     private int choose() {
@@ -77,6 +90,7 @@ public final class RandomRunsTest {
         int kind = value(4);
         int part = value(7);
         int number = value(101);
+        calls++;
         called = what + ": " + lane + " " + line + " " + mile + " " + other + " " + way + " " + kind + " " + part
                 + " " + number;
         switch (what) {
@@ -119,12 +133,14 @@ public final class RandomRunsTest {
         }
         called = "text " + text;
         for (int i = 0; i < text.length(); i++) {
+            calls++;
             int got = road.append(text.charAt(i));
             int want = model.append(text.charAt(i));
             if (got != want) {
                 return both(got, want);
             }
         }
+        calls += 3;
         int got = road.errorPosition();
         int want = model.errorPosition();
         if (got != want) {
@@ -147,31 +163,40 @@ public final class RandomRunsTest {
         }
     }
 
-    /** Compares all that can be seen; these calls are more than a run has, which does no harm. */
-    private long look() {
+    private long lookAtAll() {
         for (int mile = 0; mile < 16; mile++) {
-            for (int lane = 0; lane < 3; lane++) {
-                for (int part = 0; part < 7; part++) {
-                    called = "look at cell " + lane + " " + mile + " " + part;
-                    if (road.cell(lane, mile, part) != model.cell(lane, mile, part)) {
-                        return both(road.cell(lane, mile, part), model.cell(lane, mile, part));
-                    }
-                }
-            }
-        }
-        for (int i = 0; i < 64; i++) {
-            called = "look at line " + i;
-            if (road.line(i % 2, i / 4, i / 2 % 2) != model.line(i % 2, i / 4, i / 2 % 2)) {
-                return both(road.line(i % 2, i / 4, i / 2 % 2), model.line(i % 2, i / 4, i / 2 % 2));
+            long both = lookAtMile(mile);
+            if (both != 0) {
+                return both;
             }
         }
         for (int what = 0; what < 15; what++) {
+            calls++;
             called = "look at total " + what;
-            if (road.total(what) != model.total(what)) {
-                return both(road.total(what), model.total(what));
+            int got = road.total(what);
+            int want = model.total(what);
+            if (got != want) {
+                return both(got, want);
             }
         }
-        return both(0, 0);
+        return 0;
+    }
+
+    /** Compares the signs of a mile, and answers 0 if they are alike. */
+    private long lookAtMile(int mile) {
+        for (int i = 0; i < 16; i++) {
+            boolean isCell = i < 12;
+            int row = isCell ? i / 4 : i / 2 % 2;
+            int part = isCell ? i % 4 : i % 2;
+            calls++;
+            called = "look at " + (isCell ? "cell " : "line ") + row + " " + mile + " " + part;
+            int got = isCell ? road.cell(row, mile, part) : road.line(row, mile, part);
+            int want = isCell ? model.cell(row, mile, part) : model.line(row, mile, part);
+            if (got != want) {
+                return both(got, want);
+            }
+        }
+        return 0;
     }
 
     /** Numbers that follow from a seed alone. */

@@ -169,9 +169,15 @@ public final class RefusedTest {
             x.erase(0, mile);
             x.erase(1, mile);
         }
-        check.due("neither cans nor signs", x.bestNight(), RoadPaint.NOT_POSSIBLE);
+        check.due("neither cans nor signs to repaint", x.bestNight(), RoadPaint.NOT_POSSIBLE);
+        for (int mile = 0; mile < 10; mile++) {
+            x.erase(0, mile);
+            x.erase(1, mile);
+        }
+        check.due("no signs at all", x.total(9), 0);
+        check.due("nor cans", x.bestNight(), RoadPaint.NOT_POSSIBLE);
         x.bring(1);
-        check.due("no signs", x.bestNight(), RoadPaint.NONE);
+        check.due("a can, no signs", x.bestNight(), RoadPaint.NONE);
     }
 
     private static void errorsAheadOfNone() {

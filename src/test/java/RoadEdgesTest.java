@@ -10,9 +10,11 @@ public final class RoadEdgesTest {
         linesOfTheirOwn();
         linesBetweenLanes();
         fullRoad();
+        eachTotal();
         emptyCell();
         freeLanes();
         inPlaceOfAnother();
+        previousDash();
         dashZero();
         removedSigns();
         fourMiles();
@@ -116,6 +118,43 @@ public final class RoadEdgesTest {
         }
     }
 
+    /** Each total has another value, so that none can stand for another one. */
+    private static void eachTotal() {
+        check.sentence("0 for the arrows, 1 for the words, .. 13 and 14 for the settings 0 and 1");
+        RoadPaint x = new RoadPaint();
+        x.traffic(0, 20);
+        x.traffic(1, 16);
+        x.traffic(2, 0);
+        x.set(0, 41);
+        x.set(1, 9);
+        for (int mile = 0; mile < 10; mile++) {
+            x.word(0, mile, 2);
+        }
+        x.arrow(0, 15, 0);
+        x.arrow(1, 15, 0);
+        x.pass(3);
+        x.night(0, 15);
+        x.night(0, 3);
+        x.pass(2);
+        for (int lane = 0; lane < 3; lane++) {
+            x.arrow(lane, 2 * lane, 1);
+            x.dash(lane / 2, 9 + lane, 2);
+        }
+        x.dash(1, 3, 1);
+        x.dash(1, 4, 3);
+        x.dash(1, 5, 0);
+        x.word(0, 13, 3);
+        x.word(0, 14, 3);
+        x.pass(3);
+        x.word(2, 8, 1);
+        x.arrow(2, 10, 1);
+        x.set(1, 7);
+        // The first 12 signs are gone, 9 of them after they were repainted.
+        int strengths = 40 + 52 + 100 + 100 + 2 * 40 + 100 + 2 * 46 + 3 * 76;
+        int[] due = {4, 3, 5, 1, 11, 8, 2, 9, 12, strengths, 20, 16, 0, 41, 7};
+        check.allDue("totals", Roads.totals(x), due);
+    }
+
     private static void emptyCell() {
         check.sentence("0 for its arrow (NONE without one), 1 for the strength of the arrow (0 without one)");
         RoadPaint x = new RoadPaint();
@@ -186,6 +225,20 @@ public final class RoadEdgesTest {
         check.due("one dash", z.total(2), 1);
     }
 
+    private static void previousDash() {
+        check.sentence("dash: Returns the previous dash");
+        for (int before = 0; before < 4; before++) {
+            for (int dash = 0; dash < 4; dash++) {
+                RoadPaint x = new RoadPaint();
+                x.dash(0, 0, before);
+                check.due(dash + " after " + before, x.dash(0, 0, dash), before);
+                check.due("it is", x.line(0, 0, 0), dash);
+                check.due("the other line", x.dash(1, 0, dash), 0);
+                check.due("the next mile", x.dash(0, 1, dash), 0);
+            }
+        }
+    }
+
     private static void dashZero() {
         check.sentence("0 to 3; 0 removes it");
         for (int dash = 1; dash < 4; dash++) {
@@ -217,6 +270,14 @@ public final class RoadEdgesTest {
             check.due("the dash stays", x.line(1, mile, 1), 100);
             check.due("the sum of strengths", x.total(9), 100);
             check.due("again", x.erase(2, mile), 0);
+            x.traffic(2, 9);
+            x.word(2, mile, 3);
+            x.arrow(2, mile, 0);
+            x.pass(11);
+            check.due("strength", x.cell(2, mile, 1) + x.cell(2, mile, 3), 2);
+            check.due("both, with a strength of 1", x.erase(2, mile), 2);
+            check.due("no arrow", x.cell(2, mile, 0), NONE);
+            check.due("no word", x.cell(2, mile, 2), NONE);
         }
     }
 

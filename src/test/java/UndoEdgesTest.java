@@ -195,7 +195,7 @@ public final class UndoEdgesTest {
     }
 
     private static void statesAfterUndo() {
-        check.sentence("and discards it from the recorded states");
+        check.sentence("Makes the latest recorded state current and discards it from the recorded states");
         for (int undone = 1; undone <= 5; undone++) {
             RoadPaint x = withWords(9);
             for (int i = 0; i < undone; i++) {

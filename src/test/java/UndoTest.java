@@ -34,16 +34,15 @@ public final class UndoTest {
     }
 
     private static void promise23WhatIsUndone() {
-        RoadPaint x = new RoadPaint();
-        x.traffic(0, 20);
-        x.word(0, 0, 2);
-        x.arrow(0, 0, 0);
-        x.dash(0, 0, 1);
-        x.pass(4);
-        int[] before = totals(x);
-        String text = "w1a0;l1a2;d;n" + "ap";
         for (int call = 0; call < 11; call++) {
-            Check.write(x, text);
+            RoadPaint x = new RoadPaint();
+            x.traffic(0, 20);
+            x.word(0, 0, 2);
+            x.arrow(0, 0, 0);
+            x.dash(0, 0, 1);
+            x.pass(4);
+            int[] before = totals(x);
+            Check.write(x, "w1a0;l1a2;d;nap");
             int answer = change(x, call);
             check.isTrue("call " + call + " is no error", answer >= 0);
             x.clearText();
@@ -54,11 +53,12 @@ public final class UndoTest {
             check.due("the word is as before", x.cell(0, 0, 2), 2);
             check.due("the dash is as before", x.line(0, 0, 0), 1);
         }
-        x.append(100);
-        x.word(2, 2, 2);
-        x.append(100);
-        x.undo();
-        check.due("the buffer is not undone", x.clearText(), 2);
+        RoadPaint y = new RoadPaint();
+        y.append(100);
+        y.word(2, 2, 2);
+        y.append(100);
+        y.undo();
+        check.due("the buffer is not undone", y.clearText(), 2);
     }
 
     private static int change(RoadPaint x, int call) {
@@ -78,11 +78,7 @@ public final class UndoTest {
     }
 
     private static int[] totals(RoadPaint x) {
-        int[] totals = new int[15];
-        for (int what = 0; what < totals.length; what++) {
-            totals[what] = x.total(what);
-        }
-        return totals;
+        return Roads.totals(x);
     }
 
     private static boolean same(int[] one, int[] other) {
