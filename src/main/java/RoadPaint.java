@@ -244,11 +244,10 @@ public final class RoadPaint {
             return BAD_TEXT;
         }
         history.record(road);
+        int at = 0;
         int done = 0;
-        for (int at = 0; at < orders.length; at += orders.widthAt(at) + 1) {
-            if (!carriesOutOrder(at)) {
-                break;
-            }
+        while (done < TEXT_LENGTH && at < orders.length && carriesOutOrder(at)) {
+            at += orders.widthAt(at) + 1;
             done++;
         }
         orders.empty();

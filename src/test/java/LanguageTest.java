@@ -1,10 +1,13 @@
 import java.io.IOException;
+import java.lang.reflect.Field;
+import java.lang.reflect.Method;
+import java.lang.reflect.Modifier;
 import java.nio.file.Files;
 import java.nio.file.Path;
 import java.util.regex.Matcher;
 import java.util.regex.Pattern;
 
-/** The rules of LANGUAGE.md that can be read from the source word by word. */
+/** The rules of LANGUAGE.md that can be read from the source word by word, or from its classes. */
 public final class LanguageTest {
     private static final String[] FORBIDDEN = {
         "throw", "throws", "try", "catch", "finally", "synchronized", "assert", "import", "package", "protected",
@@ -25,8 +28,46 @@ public final class LanguageTest {
             Matcher matcher = Pattern.compile(isWord ? "\\b" + word + "\\b" : word).matcher(code);
             check.isTrue("no " + word, !matcher.find());
         }
+        check.isTrue("each loop has a bound", !Pattern.compile("while \\(true\\)|for \\([^;]*;\\s*;").matcher(code).find());
         shortMethods(source);
+        Class<?>[] inside = RoadPaint.class.getDeclaredClasses();
+        check.isTrue("at most 12 classes", inside.length + 1 <= 12);
+        smallClass(RoadPaint.class);
+        for (Class<?> one : inside) {
+            check.isTrue(one + " is static", Modifier.isStatic(one.getModifiers()));
+            check.due(one + ", classes inside it", one.getDeclaredClasses().length, 0);
+            smallClass(one);
+        }
         check.end();
+    }
+
+    /** The rules 3, 5 and 11: the types and the number of fields, and the number of parameters. */
+    private static void smallClass(Class<?> one) {
+        int own = 0;
+        for (Field field : one.getDeclaredFields()) {
+            if (Modifier.isStatic(field.getModifiers())) {
+                check.isTrue(field + " is a constant", Modifier.isFinal(field.getModifiers()));
+                check.isTrue(field + " is a number or a text",
+                        field.getType().isPrimitive() || field.getType() == String.class);
+            } else {
+                own++;
+            }
+            check.isTrue(field + " has a type of the rules", isOfTheRules(field.getType()));
+        }
+        check.isTrue(one + " has at most 20 fields", own <= 20);
+        for (Method method : one.getDeclaredMethods()) {
+            check.isTrue(method + " has at most 7 parameters", method.getParameterCount() <= 7);
+            for (Class<?> type : method.getParameterTypes()) {
+                check.isTrue(method + " takes types of the rules", isOfTheRules(type));
+            }
+        }
+    }
+
+    private static boolean isOfTheRules(Class<?> type) {
+        if (type.isArray() && !type.getComponentType().isArray()) {
+            return isOfTheRules(type.getComponentType());
+        }
+        return type.isPrimitive() || type == String.class || type.getName().startsWith("RoadPaint");
     }
 
     /** A method of the class or of a class inside it ends with a brace at its own depth. */
